@@ -337,6 +337,15 @@ public final class ChangesTest {
         dueFrames("an end at least 1 more", y, 1, 10, 11);
         dueFrames("the last anchor", y, 2, 12, 25);
 
+        SubtitleHarbour w = withCues(65, 72, 0, 75, 76, 0, 5, 85, 0);
+        for (int anchor = 1; anchor <= 8; anchor++) {
+            w.addAnchor(10 * anchor, anchor == 8 ? 200 : 100 + anchor);
+        }
+        CHECK.due("8 anchors", w.drift(), 6);
+        dueFrames("between the sixth and the eighth", w, 0, 106, 125);
+        dueFrames("ahead of the eighth", w, 1, 153, 162);
+        dueFrames("from ahead of the first to behind the eighth", w, 2, 96, 205);
+
         SubtitleHarbour z = withCues(50000, 99998, 0);
         z.addAnchor(0, 0);
         z.addAnchor(99999, 99998);

@@ -105,7 +105,9 @@ public final class CodesTest {
         CHECK.due("in place of one", x.code(597, 'd', 0), true);
         CHECK.due("mode", x.modeAt(597), 'd');
         CHECK.due("sound with 200 codes", x.isSound(), true);
-        x.dropCode(0);
+        CHECK.due("one of 200", x.dropCode(0), true);
+        CHECK.due("it is gone", x.dropCode(0), false);
+        CHECK.due("the last one stays", x.modeAt(597), 'd');
         CHECK.due("room again", x.code(1, 'd', 0), false);
         CHECK.due("mode at 1", x.modeAt(1), 'd');
     }

@@ -25,6 +25,17 @@ public final class HearingTest {
         CHECK.badArgument("a wrong word goes ahead", () -> x.addHeard(0, 0));
         x.addCue(0, 10, 0);
         CHECK.due("all are left out", x.hear(0), 29);
+        SubtitleHarbour y = new SubtitleHarbour();
+        y.addCue(10, 40, 0);
+        for (int word = 1; word <= 12; word++) {
+            y.addWord(0, word);
+        }
+        for (int heard = 1; heard <= 30; heard++) {
+            y.addHeard(heard, heard == 30 ? 12 : 50);
+        }
+        CHECK.due("12 words and 30 heard ones", y.hear(0), 11 * 3 + 18);
+        CHECK.due("the last word and the last heard one", y.timeOf(0, 11), 30);
+        CHECK.due("the first ones", y.timeOf(0, 0), 1);
     }
 
     /** A cue with words, and heard words at the frames 100, 110 and so on. */

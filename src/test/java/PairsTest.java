@@ -7,6 +7,7 @@ public final class PairsTest {
         costs();
         ways();
         order();
+        many();
         CHECK.end();
     }
 
@@ -84,6 +85,28 @@ public final class PairsTest {
         // pairs do not cross
         z.addWord(3, 1);
         CHECK.due("a word more", z.pairCost(), 55);
+    }
+
+    private static void many() {
+        for (int region = 1; region <= 2; region++) {
+            SubtitleHarbour x = new SubtitleHarbour();
+            SubtitleHarbour y = new SubtitleHarbour();
+            for (int cue = 0; cue < 24; cue++) {
+                x.addCue(cue * 100, cue * 100 + 5, region);
+                y.addCue(cue * 100, cue * 100 + 5, cue == 23 ? region : 3 - region);
+            }
+            CHECK.due("24 alone", x.pairCost(), 24 * 40);
+            CHECK.due("the last one alone", x.pairOf(23), -1);
+            CHECK.due("24 alone but for two", y.pairCost(), 24 * 40);
+            SubtitleHarbour z = new SubtitleHarbour();
+            for (int cue = 0; cue < 23; cue++) {
+                z.addCue(cue * 100, cue * 100 + 5, region);
+            }
+            z.addCue(2201, 2205, 3 - region);
+            CHECK.due("22 alone and a pair", z.pairCost(), 22 * 40 + 1);
+            CHECK.due("the last one of 23", z.pairOf(22), 23);
+            CHECK.due("its pair", z.pairOf(23), 22);
+        }
     }
 
     private static void order() {
