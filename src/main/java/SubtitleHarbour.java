@@ -442,22 +442,7 @@ public final class SubtitleHarbour {
 
     public boolean isSound() {
         arrange();
-        if (stage.hasClash()) {
-            return false;
-        }
-        played.restart();
-        for (int place = 0; place < codes.count && place < MOST_CODES; place++) {
-            if (!isSameAt(codes.frames[place])) {
-                return false;
-            }
-        }
-        for (int place = 0; place < stage.count; place++) {
-            Cue cue = stage.cueIn(place);
-            if (!isSameAt(cue.start) || !isSameAt(cue.end - 1)) {
-                return false;
-            }
-        }
-        return true;
+        return !stage.hasClash() && isSameAtCodes() && isSameAtCues();
     }
 
     private static boolean isIn(int number, int least, int most) {
@@ -557,12 +542,31 @@ public final class SubtitleHarbour {
         }
     }
 
-    private boolean isSameAt(int frame) {
-        jumped.goTo(codes, frame);
-        played.goTo(codes, frame);
-        if (!jumped.shown.looksLike(played.shown)) {
-            return false;
+    private boolean isSameAtCodes() {
+        played.restart();
+        for (int place = 0; place < codes.count && place < MOST_CODES; place++) {
+            int frame = codes.frames[place];
+            jumped.goTo(codes, frame);
+            played.goTo(codes, frame);
+            if (!jumped.shown.looksLike(played.shown) || !hasSameCuesAt(frame)) {
+                return false;
+            }
         }
+        return true;
+    }
+
+    /** What the codes show does not change between two of them, so that the cues alone are left to look at. */
+    private boolean isSameAtCues() {
+        for (int place = 0; place < stage.count; place++) {
+            Cue cue = stage.cueIn(place);
+            if (!hasSameCuesAt(cue.start) || !hasSameCuesAt(cue.end - 1)) {
+                return false;
+            }
+        }
+        return true;
+    }
+
+    private boolean hasSameCuesAt(int frame) {
         stage.playTo(frame);
         for (int row = 0; row < ROWS; row++) {
             if (stage.cueOn(frame, row) != stage.playedCueOn(row)) {
@@ -692,7 +696,8 @@ public final class SubtitleHarbour {
         }
 
         private static int cellOf(int row, int column) {
-            return isIn(row, 0, ROWS - 1) && isIn(column, 0, COLUMNS - 1) ? COLUMNS * row + column : NONE;
+            boolean isThere = row >= 0 && row < ROWS && column >= 0 && column < COLUMNS;
+            return isThere ? COLUMNS * row + column : NONE;
         }
 
         int letterIn(int row, int column) {
@@ -718,7 +723,7 @@ public final class SubtitleHarbour {
         }
 
         private void emptyRows(int first, int last) {
-            for (int cell = Math.max(0, COLUMNS * first); cell < COLUMNS * (last + 1) && cell < CELLS; cell++) {
+            for (int cell = first < 0 ? 0 : COLUMNS * first; cell < COLUMNS * (last + 1) && cell < CELLS; cell++) {
                 letters[cell] = NONE;
                 colours[cell] = NONE;
             }
@@ -726,7 +731,7 @@ public final class SubtitleHarbour {
 
         void rollUp(int first, int last) {
             emptyRows(0, first - 1);
-            for (int cell = Math.max(0, COLUMNS * first); cell < COLUMNS * last && cell + COLUMNS < CELLS; cell++) {
+            for (int cell = first < 0 ? 0 : COLUMNS * first; cell < COLUMNS * last && cell + COLUMNS < CELLS; cell++) {
                 letters[cell] = letters[cell + COLUMNS];
                 colours[cell] = colours[cell + COLUMNS];
             }

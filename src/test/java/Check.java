@@ -7,9 +7,24 @@ final class Check {
     private final String name;
     private int answers;
     private int wrong;
+    private String sentence = "";
+    private int answersAhead;
 
     Check(String name) {
         this.name = name;
+    }
+
+    /** What is checked from here on is said by this sentence of the document. */
+    void says(String nextSentence) {
+        needAnswers();
+        sentence = nextSentence;
+        answersAhead = answers;
+    }
+
+    private void needAnswers() {
+        if (!sentence.isEmpty() && answers == answersAhead) {
+            tell("nothing is checked of it");
+        }
     }
 
     void due(String what, long got, long want) {
@@ -72,11 +87,12 @@ final class Check {
     private void tell(String text) {
         wrong++;
         if (wrong <= 40) {
-            System.out.println(name + ": " + text);
+            System.out.println(name + ": " + text + (sentence.isEmpty() ? "" : " [" + sentence + "]"));
         }
     }
 
     void end() {
+        needAnswers();
         System.out.println(name + ": " + answers + " answers, " + wrong + " not as due");
         if (wrong != 0 || answers == 0) {
             System.exit(1);
