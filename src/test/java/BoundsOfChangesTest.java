@@ -542,6 +542,7 @@ public final class BoundsOfChangesTest {
         for (int anchor = 0; anchor < 8; anchor++) {
             CHECK.due("number of anchors", x.addAnchor(10 * anchor, anchor), anchor + 1);
         }
+        CHECK.says("Throws IllegalStateException if there are 8 anchors");
         CHECK.badState("a 9th one", () -> x.addAnchor(71, 8));
         CHECK.badState("a 9th one at the end", () -> x.addAnchor(99999, 99999));
         x.drift();

@@ -70,8 +70,10 @@ public final class BoundsOfCuesTest {
     }
 
     private static void mostCues() {
-        CHECK.says("At most 24 cues have numbers from 0");
+        CHECK.says("Returns how many cues are there.");
         SubtitleHarbour x = new SubtitleHarbour();
+        CHECK.due("none", x.cues(), 0);
+        CHECK.says("At most 24 cues have numbers from 0");
         for (int number = 0; number < 24; number++) {
             CHECK.due("number", cue(x, number, 99, number % 3), number);
             CHECK.due("cues", x.cues(), number + 1);
@@ -132,14 +134,17 @@ public final class BoundsOfCuesTest {
         for (int word = 1; word <= 12; word++) {
             CHECK.due("number of words", x.addWord(0, 9), word);
         }
+        CHECK.says("Throws IllegalStateException if it has 12 words");
         CHECK.badState("a 13th one", () -> x.addWord(0, 1));
+        CHECK.badState("a 13th one again", () -> x.addWord(0, 99));
         CHECK.due("another cue", x.addWord(1, 1), 1);
         CHECK.due("12 letters and 11 blanks", x.readingTime(0), 23 * 2000 + 12 * 300);
         CHECK.due("12 are gone", x.dropCue(0), 12);
-        CHECK.says("A word is a number from 1 to 99");
+        CHECK.says("Throws IllegalArgumentException if it is no word");
         for (int word : new int[] {0, 100, -1, Integer.MIN_VALUE, Integer.MAX_VALUE}) {
             CHECK.badArgument("word " + word, () -> x.addWord(1, word));
         }
+        CHECK.says("A word is a number from 1 to 99");
         CHECK.due("1", x.addWord(1, 1), 2);
         CHECK.due("99", x.addWord(1, 99), 3);
     }

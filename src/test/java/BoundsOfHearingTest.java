@@ -58,6 +58,7 @@ public final class BoundsOfHearingTest {
         for (int number = 1; number <= 30; number++) {
             CHECK.due("number of heard words", x.addHeard(100 + number, number), number);
         }
+        CHECK.says("Throws IllegalStateException if there are 30 heard words");
         CHECK.badState("a 31st one", () -> x.addHeard(150, 1));
         CHECK.badState("a 31st one at the end", () -> x.addHeard(99999, 99));
         CHECK.due("29 are left out", x.hear(0), 29);
