@@ -1019,11 +1019,11 @@ public final class SubtitleHarbour {
         }
 
         Cue cueIn(int place) {
-            return cues[order[place]];
+            return cues[numberIn(place)];
         }
 
         int numberIn(int place) {
-            return order[place];
+            return place >= 0 && place < MOST_CUES ? order[place] : 0;
         }
 
         void arrangeAll() {

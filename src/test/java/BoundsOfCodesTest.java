@@ -437,6 +437,10 @@ public final class BoundsOfCodesTest {
         due("r4 t1 c t2 c t3 c t4 r2 c", "//////d/");
         due("r4 t1 c t2 c t3 c t4 r3 c", "/////c/d/");
         due("r4 t1 c t2 c t3 c t4 r4 c", "////b/c/d/");
+        due("r4 m60 t1 c t2 c t3 c t4", "a/b/c/d////");
+        due("r4 m60 t1 c t2 c t3 c t4 r2 c", "//d/////");
+        due("r4 m60 t1 c t2 c t3 c t4 r3 c", "/c/d/////");
+        due("r4 m20 t1 c t2 r2 c", "b///////");
         CHECK.says("from the cursor's row upward");
         // below the cursor's row nothing can be: going there from another row, or from another mode, empties all
         due("r3 m100 t1 c t2", "////a/b//");

@@ -368,6 +368,13 @@ public final class BoundsOfCuesTest {
         cue(y, 1, 20, 0, 1);
         CHECK.due("above the one that is taken", y.rowOf(cue(y, 6, 10, 0, 5, 5)), 4);
         CHECK.due("between them", y.rowOf(cue(y, 7, 10, 0, 1)), 7);
+        SubtitleHarbour z = new SubtitleHarbour();
+        z.setRegion(0, 5, 3, 5);
+        cue(z, 0, 5, 0, 1);
+        cue(z, 1, 20, 0, 1);
+        CHECK.due("two rows are free, but not one below the other", z.rowOf(cue(z, 5, 10, 0, 5, 5)), -1);
+        CHECK.due("which takes none of them", z.rowOf(cue(z, 6, 10, 0, 1)), 7);
+        CHECK.due("nor the one above", z.rowOf(cue(z, 7, 10, 0, 1)), 5);
     }
 
     private static void endsAndFirstFrames() {
